@@ -166,6 +166,10 @@ public final class ClerkTest {
         reads("", 0);
         reads("   ", 0);
         faultAt("^nownow 1;");
+        faultAt("^nowz 1;");
+        faultAt("^anow 1;");
+        faultAt("now ^190;");
+        faultAt("^0now 1;");
         faultAt("now 1 ^2;");
         faultAt("now 1^\t;");
         faultAt("^Now 1;");

@@ -37,7 +37,6 @@ public final class RowsTest {
         Due.is("prove(1)", x.prove(1), 1);
         Due.is("fewer ROWS", x.many(3), 1);
         Due.is("none such any more", x.row(1, 0), MIN);
-        x.clerk();
         x = five();
         x.prove(7);
         String after = Look.at(x);

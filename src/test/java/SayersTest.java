@@ -12,6 +12,7 @@ public final class SayersTest {
         sayFull();
         sayingOf();
         wouldOfEachKind();
+        wouldOfTheSure();
         wouldWithoutRoom();
         wouldRefuses();
         morningOfOne();
@@ -240,6 +241,31 @@ public final class SayersTest {
         }
     }
 
+    private static void wouldOfTheSure() {
+        SaidWeather x = new SaidWeather();
+        x.sayer(SAYER, 0);
+        x.morning(3);
+        certain(x, 0, 1);
+        int[] weights = {2, 5, 1, 2};
+        for (int weather = 0; weather < 4; weather++) {
+            x.weigh(3, weather, weights[weather]);
+        }
+        for (int a = 0; a < 10; a++) {
+            x.mind(0, SURE, a);
+            if (a <= 5) {
+                would(x, 0, 3, 1, 1);
+            } else {
+                would(x, 0, -3, -3, 0);
+            }
+        }
+        // 50 against 6 times 9, and against 5 times 9
+        x.weigh(3, 0, 1);
+        x.mind(0, SURE, 6);
+        would(x, 0, -3, -3, 0);
+        x.mind(0, SURE, 5);
+        would(x, 0, 3, 1, 1);
+    }
+
     private static void wouldWithoutRoom() {
         SaidWeather x = new SaidWeather();
         x.sayer(SAYER, 0);
@@ -351,9 +377,9 @@ public final class SayersTest {
             Due.is("the SIGN of DAY 4", x.dayOf(4, 1), drawn(z, fourth));
             Due.is("no SIGN of DAY 3", x.dayOf(3, 1), -9);
             Due.is("no SIGN of DAY 5", x.dayOf(5, 1), -9);
-            x.sign(5, 2);
+            x.sign(5, seed & 3);
             x.morning(1);
-            Due.is("a SIGN that was there stays", x.dayOf(5, 1), 2);
+            Due.is("a SIGN that was there stays", x.dayOf(5, 1), seed & 3);
             z = z * 1103515245 + 12345;
             Due.is("z did not go on for it", x.seed(0), z);
         }
@@ -398,6 +424,15 @@ public final class SayersTest {
         Due.same("one by one as all at once", Look.at(one), Look.at(x));
     }
 
+    private static int firstSayingOwns() {
+        SaidWeather x = new SaidWeather();
+        x.sayer(SAYER, 0);
+        certain(x, 0, 3);
+        x.say(0, 0, 3);
+        x.morning(1);
+        return x.owner(0);
+    }
+
     private static void owner() {
         SaidWeather x = new SaidWeather();
         x.sayer(SAYER, 0);
@@ -410,6 +445,7 @@ public final class SayersTest {
         x.weigh(1, 0, 0);
         x.morning(2);
         Due.is("who said it", x.owner(0), 1);
+        Due.is("the first SAYING of all", firstSayingOwns(), 0);
         Due.is("nobody", x.owner(1), -3);
         Due.is("not over", x.owner(2), -3);
         for (int bad : new int[] {-1, 20, MIN, MAX}) {

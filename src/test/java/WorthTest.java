@@ -15,6 +15,7 @@ public final class WorthTest {
         whole();
         owed();
         believed();
+        believedOfOne();
         whom();
         open();
         seed();
@@ -105,6 +106,8 @@ public final class WorthTest {
         // EARN 9, all 12 with a SIGN: signs 0, 1, 2 bring weights 7, 8, 9 of 12
         // gains by 12: 63-10-12 = 41, 72-8-12 = 52, 81-6-12 = 63; (41 + 2*52 + 3*63) by 72
         fraction("waited(7)", x.waited(7, 0), x.waited(7, 1), 167, 36);
+        x.weigh(8, 0, 9);
+        fraction("whatever the next DAY weighs", x.waited(7, 0), x.waited(7, 1), 167, 36);
         x.say(0, 7, 2);
         // with sign 2: the best of the rest is 1, 18-20-12 below 0: none is said
         fraction("waited, one is said", x.waited(7, 0), x.waited(7, 1), 145, 72);
@@ -268,6 +271,19 @@ public final class WorthTest {
             Due.is("believed(" + bad + ", 0)", x.believed(bad, 0), -1);
             Due.is("believed(0, " + bad + ")", x.believed(0, bad), -1);
         }
+    }
+
+    private static void believedOfOne() {
+        SaidWeather x = new SaidWeather();
+        x.sayer(0, 0);
+        weights(x, 0, 0, 5, 0, 0);
+        weights(x, 1, 0, 5, 0, 0);
+        x.say(0, 0, 1);
+        x.morning(1);
+        fraction("one of one", x.believed(0, 0), x.believed(0, 1), 1, 1);
+        x.say(0, 1, 1);
+        x.morning(1);
+        fraction("two of two", x.believed(0, 0), x.believed(0, 1), 1, 1);
     }
 
     private static void whom() {
