@@ -154,6 +154,9 @@ public final class SayersTest {
         Due.is("many(1)", x.many(1), 40);
         x.morning(5);
         Due.is("no room comes back", x.say(0, 15, 0), -2);
+        Due.is("one who said all of it", x.owner(4), 0);
+        x.morning(10);
+        Due.is("nobody, of forty SAYINGS", x.owner(14), -3);
     }
 
     private static void sayingOf() {

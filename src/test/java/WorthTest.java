@@ -247,6 +247,9 @@ public final class WorthTest {
         Due.is("four of one DAY", x.owed(1), -4000 + 4 * -2000);
         x.morning(1);
         Due.is("over: by PURSE alone", x.owed(1), -4000 + 1000 - 9000);
+        weights(x, 9, 0, 0, 1, 0);
+        x.say(1, 9, 2);
+        Due.is("a WEIGHT of 1 in all", x.owed(1), -13000 + 1000);
         for (int bad : new int[] {-1, 2, MIN, MAX}) {
             Due.is("owed(" + bad + ")", x.owed(bad), NO);
         }
