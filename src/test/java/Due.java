@@ -20,8 +20,19 @@ final class Due {
         asked++;
         if (!got.equals(want)) {
             wrong++;
-            System.out.println(call + "\n  answered " + got + "\n  due is   " + want);
+            tellDifference(call, got.split("\n"), want.split("\n"));
         }
+    }
+
+    /** Long texts are told by the first line that differs. */
+    private static void tellDifference(String call, String[] got, String[] want) {
+        int i = 0;
+        while (i < got.length && i < want.length && got[i].equals(want[i])) {
+            i++;
+        }
+        String gotLine = i < got.length ? got[i] : "its end";
+        String wantLine = i < want.length ? want[i] : "its end";
+        System.out.println(call + "\n  answered " + gotLine + "\n  due is   " + wantLine + "\n  in line  " + i);
     }
 
     /** Ends the test: with 1 if an answer was wrong, or if nothing was asked. */

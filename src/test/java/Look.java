@@ -24,6 +24,14 @@ final class Look {
         return out.toString();
     }
 
+    /** That, and what its tape tells and what is kept; the object is another one afterwards. */
+    static String whole(SaidWeather x) {
+        StringBuilder out = new StringBuilder(at(x));
+        out.append("\nits tape tells ").append(x.clerk()).append('\n').append(at(x));
+        out.append("\nis kept ").append(x.again()).append('\n').append(at(x));
+        return out.toString();
+    }
+
     private static void lookAtDays(SaidWeather x, StringBuilder out) {
         for (int day = 0; day < 20; day++) {
             out.append("\nday ").append(day);

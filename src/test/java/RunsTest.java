@@ -1,5 +1,3 @@
-import java.lang.reflect.InvocationTargetException;
-import java.lang.reflect.Method;
 import java.util.Random;
 
 /** Long runs of calls of all kinds: the class answers as the model does, and nothing is ever thrown. */
@@ -27,7 +25,7 @@ public final class RunsTest {
         random = new Random(seed);
     }
 
-    public static void main(String[] args) throws Exception {
+    public static void main(String[] args) {
         for (int i = 0; i < RUNS; i++) {
             if (!new RunsTest(i).goes(i)) {
                 break;
@@ -36,7 +34,7 @@ public final class RunsTest {
         Due.end();
     }
 
-    private boolean goes(int number) throws Exception {
+    private boolean goes(int number) {
         for (int i = 0; i < CALLS; i++) {
             boolean same = random.nextInt(25) == 0 ? text() : callAs(FACE[random.nextInt(FACE.length)]);
             if (!same) {
@@ -47,7 +45,7 @@ public final class RunsTest {
         return true;
     }
 
-    private boolean callAs(String told) throws Exception {
+    private boolean callAs(String told) {
         String[] words = told.split(" ");
         // Mornings end a run soon, and an empty text takes all away.
         if ((words[0].equals("morning") || words[0].equals("clerk")) && random.nextInt(3) > 0) {
@@ -60,19 +58,15 @@ public final class RunsTest {
         return call(words[0], numbers);
     }
 
-    private boolean call(String name, long... numbers) throws Exception {
-        StringBuilder told = new StringBuilder(name).append('(');
-        for (int i = 0; i < numbers.length; i++) {
-            told.append(i == 0 ? "" : ", ").append(numbers[i]);
-        }
-        told.append(')');
+    private boolean call(String name, long... numbers) {
+        String told = Calls.told(name, numbers);
         long want = model.call(name, numbers);
         run.append("\n  ").append(told).append(" -> ").append(want);
         // What is asked often in between is not looked at whole.
         boolean look = want < 0 && random.nextInt(10) == 0 && !name.equals("clerk") && !name.equals("act");
         String before = look && refuses(name, want) ? Look.at(x) : null;
-        long got = invoke(name, numbers);
-        Due.is(told.toString(), got, want);
+        long got = Calls.call(x, name, numbers);
+        Due.is(told, got, want);
         if (before != null) {
             Due.same(told + " changes nothing", Look.at(x), before);
         }
@@ -85,25 +79,6 @@ public final class RunsTest {
             case "alterRow" -> false;
             default -> want < 0;
         };
-    }
-
-    private long invoke(String name, long[] numbers) throws Exception {
-        for (Method method : SaidWeather.class.getDeclaredMethods()) {
-            if (method.getName().equals(name) && java.lang.reflect.Modifier.isPublic(method.getModifiers())) {
-                Class<?>[] types = method.getParameterTypes();
-                Object[] given = new Object[types.length];
-                for (int i = 0; i < types.length; i++) {
-                    given[i] = types[i] == long.class ? (Object) numbers[i] : (Object) (int) numbers[i];
-                }
-                try {
-                    return ((Number) method.invoke(x, given)).longValue();
-                } catch (InvocationTargetException e) {
-                    e.getCause().printStackTrace(System.out);
-                    return Long.MIN_VALUE;
-                }
-            }
-        }
-        throw new IllegalStateException("there is no " + name);
     }
 
     private int number(String sort) {
@@ -134,7 +109,7 @@ public final class RunsTest {
     }
 
     /** A text, mostly right, sometimes with a byte or two that are off. */
-    private boolean text() throws Exception {
+    private boolean text() {
         StringBuilder text = new StringBuilder();
         int things = random.nextInt(9);
         for (int i = 0; i < things; i++) {

@@ -24,16 +24,6 @@ public final class SayersTest {
         Due.end();
     }
 
-    /** A DAY that can only become one WEATHER. */
-    private static void certain(SaidWeather x, int day, int weather) {
-        x.weigh(day, weather, 9);
-        for (int other = 0; other < 4; other++) {
-            if (other != weather) {
-                x.weigh(day, other, 0);
-            }
-        }
-    }
-
     private static void sayer() {
         SaidWeather x = new SaidWeather();
         for (int bad : new int[] {-1, 6, MIN, MAX}) {
@@ -163,7 +153,7 @@ public final class SayersTest {
         SaidWeather x = new SaidWeather();
         x.sayer(SAYER, 0);
         x.sayer(SAYER, 0);
-        certain(x, 0, 2);
+        Places.certain(x, 0, 2);
         x.say(1, 0, 2);
         x.say(0, 0, 1);
         x.say(1, 1, 3);
@@ -248,7 +238,7 @@ public final class SayersTest {
         SaidWeather x = new SaidWeather();
         x.sayer(SAYER, 0);
         x.morning(3);
-        certain(x, 0, 1);
+        Places.certain(x, 0, 1);
         int[] weights = {2, 5, 1, 2};
         for (int weather = 0; weather < 4; weather++) {
             x.weigh(3, weather, weights[weather]);
@@ -301,7 +291,7 @@ public final class SayersTest {
     private static void morningOfOne() {
         SaidWeather x = new SaidWeather();
         x.worth(0, 55);
-        certain(x, 0, 1);
+        Places.certain(x, 0, 1);
         for (int i = 0; i < 4; i++) {
             x.sayer(SAYER, 0);
         }
@@ -430,7 +420,7 @@ public final class SayersTest {
     private static int firstSayingOwns() {
         SaidWeather x = new SaidWeather();
         x.sayer(SAYER, 0);
-        certain(x, 0, 3);
+        Places.certain(x, 0, 3);
         x.say(0, 0, 3);
         x.morning(1);
         return x.owner(0);
@@ -440,7 +430,7 @@ public final class SayersTest {
         SaidWeather x = new SaidWeather();
         x.sayer(SAYER, 0);
         x.sayer(SAYER, 0);
-        certain(x, 0, 3);
+        Places.certain(x, 0, 3);
         x.say(0, 0, 2);
         x.say(1, 0, 3);
         x.say(0, 1, 0);

@@ -22,15 +22,6 @@ public final class WorthTest {
         Due.end();
     }
 
-    private static void weights(SaidWeather x, int day, int... weights) {
-        for (int weather = 0; weather < 4; weather++) {
-            x.weigh(day, weather, 9);
-        }
-        for (int weather = 0; weather < 4; weather++) {
-            x.weigh(day, weather, weights[weather]);
-        }
-    }
-
     private static void fraction(String call, long above, long below, long wantAbove, long wantBelow) {
         Due.is(call + " above", above, wantAbove);
         Due.is(call + " below", below, wantBelow);
@@ -38,7 +29,7 @@ public final class WorthTest {
 
     private static void odds() {
         SaidWeather x = new SaidWeather();
-        weights(x, 3, 0, 2, 4, 6);
+        Places.weights(x, 3, 0, 2, 4, 6);
         int[][] want = {{0, 1}, {1, 6}, {1, 3}, {1, 2}};
         for (int weather = 0; weather < 4; weather++) {
             fraction("odds " + weather, x.odds(3, weather, 0), x.odds(3, weather, 1),
@@ -48,7 +39,7 @@ public final class WorthTest {
         fraction("odds with a SIGN", x.odds(3, 0, 0), x.odds(3, 0, 1), 1, 3);
         x.set(3, 0);
         fraction("odds, SIGNS 0", x.odds(3, 0, 0), x.odds(3, 0, 1), 0, 1);
-        weights(x, 4, 0, 0, 7, 0);
+        Places.weights(x, 4, 0, 0, 7, 0);
         fraction("odds of what is certain", x.odds(4, 2, 0), x.odds(4, 2, 1), 1, 1);
         for (int bad : BAD_DAYS) {
             Due.is("odds day " + bad, x.odds(bad, 0, 0), -1);
@@ -71,7 +62,7 @@ public final class WorthTest {
         SaidWeather x = new SaidWeather();
         x.sayer(0, 0);
         x.worth(2, 99);
-        weights(x, 2, 1, 2, 3, 0);
+        Places.weights(x, 2, 1, 2, 3, 0);
         // EARN 9, FINE 2, PRICE 1, all 6
         fraction("gain 0", x.gain(2, 0, 0), x.gain(2, 0, 1), -7, 6);
         fraction("gain 1", x.gain(2, 1, 0), x.gain(2, 1, 1), 2, 3);
@@ -102,7 +93,7 @@ public final class WorthTest {
         SaidWeather x = new SaidWeather();
         x.sayer(0, 0);
         x.worth(7, 99);
-        weights(x, 7, 1, 2, 3, 0);
+        Places.weights(x, 7, 1, 2, 3, 0);
         // EARN 9, all 12 with a SIGN: signs 0, 1, 2 bring weights 7, 8, 9 of 12
         // gains by 12: 63-10-12 = 41, 72-8-12 = 52, 81-6-12 = 63; (41 + 2*52 + 3*63) by 72
         fraction("waited(7)", x.waited(7, 0), x.waited(7, 1), 167, 36);
@@ -143,7 +134,7 @@ public final class WorthTest {
         x.set(2, 1);
         x.set(3, 0);
         x.worth(10, 99);
-        weights(x, 10, 4, 1, 1, 0);
+        Places.weights(x, 10, 4, 1, 1, 0);
         // SIGNS 0: weather 0 whatever the sign is, 9*4-2*2-6 = 26 by 6
         fraction("SIGNS 0", x.waited(10, 0), x.waited(10, 1), 13, 3);
     }
@@ -162,7 +153,7 @@ public final class WorthTest {
         x.sign(14, 2);
         Due.is("the greatest, DAY", x.best(0), 14);
         Due.is("the greatest, WEATHER", x.best(1), 2);
-        weights(x, 5, 0, 0, 0, 1);
+        Places.weights(x, 5, 0, 0, 0, 1);
         x.worth(5, 60);
         // 6-1 = 5 by 1 against (9*7-2*3-10) by 10 = 4.7
         Due.is("fractions are compared, DAY", x.best(0), 5);
@@ -191,7 +182,7 @@ public final class WorthTest {
         SaidWeather x = new SaidWeather();
         x.sayer(0, 0);
         x.worth(2, 99);
-        weights(x, 2, 1, 2, 3, 0);
+        Places.weights(x, 2, 1, 2, 3, 0);
         // EARN 9 once, FINE 2 thrice, PRICE 1 four times
         fraction("whole", x.whole(2, 0), x.whole(2, 1), -1, 1);
         x.say(0, 2, 3);
@@ -222,7 +213,7 @@ public final class WorthTest {
         x.purse(0, -5);
         Due.is("below 0", x.owed(0), -5000);
         x.purse(0, 1);
-        weights(x, 2, 1, 1, 1, 0);
+        Places.weights(x, 2, 1, 1, 1, 0);
         x.worth(2, 99);
         x.say(0, 2, 0);
         // 1000 * (9 - 4) by 3
@@ -232,7 +223,7 @@ public final class WorthTest {
         x.say(0, 3, 1);
         // 1000 * (1 - 6) by 4
         Due.is("one that costs", x.owed(0), -2000 + 3332 - 1250);
-        weights(x, 3, 1, 1, 1, 0);
+        Places.weights(x, 3, 1, 1, 1, 0);
         x.set(1, 3);
         // 1000 * (1 - 6) by 3, cut towards 0; 1000 * (9 - 6) by 3
         Due.is("cut towards 0", x.owed(0), -2000 + 2000 - 1666);
@@ -247,7 +238,7 @@ public final class WorthTest {
         Due.is("four of one DAY", x.owed(1), -4000 + 4 * -2000);
         x.morning(1);
         Due.is("over: by PURSE alone", x.owed(1), -4000 + 1000 - 9000);
-        weights(x, 9, 0, 0, 1, 0);
+        Places.weights(x, 9, 0, 0, 1, 0);
         x.say(1, 9, 2);
         Due.is("a WEIGHT of 1 in all", x.owed(1), -13000 + 1000);
         for (int bad : new int[] {-1, 2, MIN, MAX}) {
@@ -261,7 +252,7 @@ public final class WorthTest {
         x.sayer(0, 0);
         fraction("without any", x.believed(0, 0), x.believed(0, 1), 0, 1);
         for (int day = 0; day < 6; day++) {
-            weights(x, day, 0, 5, 0, 0);
+            Places.weights(x, day, 0, 5, 0, 0);
             x.say(0, day, day == 1 || day == 4 ? 1 : 2);
         }
         fraction("none is over", x.believed(0, 0), x.believed(0, 1), 0, 1);
@@ -279,8 +270,8 @@ public final class WorthTest {
     private static void believedOfOne() {
         SaidWeather x = new SaidWeather();
         x.sayer(0, 0);
-        weights(x, 0, 0, 5, 0, 0);
-        weights(x, 1, 0, 5, 0, 0);
+        Places.weights(x, 0, 0, 5, 0, 0);
+        Places.weights(x, 1, 0, 5, 0, 0);
         x.say(0, 0, 1);
         x.morning(1);
         fraction("one of one", x.believed(0, 0), x.believed(0, 1), 1, 1);
@@ -297,7 +288,7 @@ public final class WorthTest {
         }
         Due.is("of several the least", x.whom(), 0);
         for (int day = 0; day < 20; day++) {
-            weights(x, day, 0, 5, 0, 0);
+            Places.weights(x, day, 0, 5, 0, 0);
         }
         x.say(0, 0, 0);
         x.say(3, 0, 2);
