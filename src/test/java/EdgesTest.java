@@ -25,6 +25,7 @@ public final class EdgesTest {
         roomThatEndsInAMorning();
         drawsAtEachMark();
         signsAtEachMark();
+        eachDayIsPaidOnce();
         zWraps();
         theLastSigns();
         theEnd();
@@ -33,10 +34,14 @@ public final class EdgesTest {
         waitedAtTheEnds();
         bestIsTheLast();
         owedIsCutTowardsZero();
+        owedToEach();
+        ownerOfThatDay();
         believedOfMany();
+        whomWithoutAny();
         rowsAtTheEnd();
         worthsAtTheEnds();
         narrowedItems();
+        shelvesAtFirst();
         sheetsOnShelves();
         actsThatWrap();
         longestTrace();
@@ -366,6 +371,33 @@ public final class EdgesTest {
         }
     }
 
+    /** What a SAYING brings comes on the morning of its DAY, neither ahead of it nor again. */
+    private static void eachDayIsPaidOnce() {
+        SaidWeather x = new SaidWeather();
+        x.sayer(0, 0);
+        x.sayer(0, 0);
+        x.set(0, 100);
+        x.set(1, 7);
+        x.set(2, 0);
+        int[] worths = {0, 10, 20, 40, 80};
+        for (int day = 0; day < 5; day++) {
+            x.worth(day, worths[day]);
+            Places.certain(x, day, 3);
+        }
+        x.say(0, 1, 3);
+        x.say(0, 2, 0);
+        x.say(0, 3, 3);
+        x.say(1, 3, 1);
+        x.say(1, 3, 2);
+        int[] first = {0, 10, 3, 43, 43};
+        int[] second = {0, 0, 0, -14, -14};
+        for (int day = 0; day < 5; day++) {
+            x.morning(1);
+            Due.is("PURSE 0 after DAY " + day, x.sayerOf(0, 2), 100000 + first[day]);
+            Due.is("PURSE 1 after DAY " + day, x.sayerOf(1, 2), 100000 + second[day]);
+        }
+    }
+
     private static void zWraps() {
         for (int z : new int[] {MIN, MIN + 1, -1, 0, 1, MAX - 1, MAX}) {
             SaidWeather x = new SaidWeather();
@@ -568,6 +600,42 @@ public final class EdgesTest {
         Due.is("over", x.owed(0), -1000);
     }
 
+    private static void owedToEach() {
+        SaidWeather x = new SaidWeather();
+        for (int sayer = 0; sayer < 5; sayer++) {
+            x.sayer(0, 0);
+            x.purse(sayer, sayer * 10);
+        }
+        x.set(0, 100);
+        x.set(2, 0);
+        for (int sayer = 4; sayer >= 0; sayer--) {
+            x.worth(sayer, 42 + 4 * sayer);
+            x.say(sayer, sayer, 0);
+        }
+        for (int sayer = 0; sayer < 5; sayer++) {
+            // EARN and three FINES of 2, by 4
+            Due.is("his own SAYING alone", x.owed(sayer), 10000 * sayer + 1000 * (9 + sayer));
+        }
+    }
+
+    /** Neither the DAY ahead nor the DAY behind makes one an owner. */
+    private static void ownerOfThatDay() {
+        SaidWeather x = new SaidWeather();
+        x.sayer(0, 0);
+        x.sayer(0, 0);
+        for (int day = 0; day < 5; day++) {
+            Places.certain(x, day, 2);
+        }
+        x.say(1, 3, 2);
+        x.say(0, 1, 2);
+        x.say(0, 2, 1);
+        x.morning(5);
+        int[] owners = {-3, 0, -3, 1, -3};
+        for (int day = 0; day < 5; day++) {
+            Due.is("owner(" + day + ")", x.owner(day), owners[day]);
+        }
+    }
+
     private static void believedOfMany() {
         SaidWeather x = new SaidWeather();
         x.sayer(0, 0);
@@ -586,6 +654,30 @@ public final class EdgesTest {
         Due.is("whom", x.whom(), 1);
         for (int day = 0; day < 20; day++) {
             Due.is("owner", x.owner(day), day < 10 ? 1 : -3);
+        }
+    }
+
+    /** Who has no SAYING of a DAY that is over is believed 0 by 1: no less than who was never right. */
+    private static void whomWithoutAny() {
+        for (int who = 0; who < 5; who++) {
+            SaidWeather x = new SaidWeather();
+            for (int i = 0; i < 5; i++) {
+                x.sayer(0, 0);
+            }
+            for (int day = 0; day < 3; day++) {
+                Places.certain(x, day, 1);
+            }
+            Due.is("nobody said anything", x.whom(), 0);
+            x.say(who, 0, 0);
+            x.say(who, 1, 1);
+            x.say(who, 2, 2);
+            Due.is("nothing is over", x.whom(), 0);
+            x.morning(1);
+            Due.is("wrong", x.whom(), 0);
+            x.morning(1);
+            Due.is("one of two", x.whom(), who);
+            x.morning(1);
+            Due.is("one of three", x.whom(), who);
         }
     }
 
@@ -656,6 +748,29 @@ public final class EdgesTest {
                 Due.is("put", x.put(sort, 0, c[0]), 1);
                 Due.is(c[0] + " of sort " + sort, x.item(sort, sort, 0), sort == 0 ? c[1] : sort == 1 ? c[2] : c[0]);
             }
+        }
+    }
+
+    private static void shelvesAtFirst() {
+        SaidWeather x = new SaidWeather();
+        for (int i = 0; i < 5; i++) {
+            x.sayer(0, 0);
+            x.sheet(i, 2, 3);
+        }
+        for (int shelf = 0; shelf < 4; shelf++) {
+            Due.is("nothing, though there are SAYERS", x.taken(shelf, 0), -11);
+            Due.is("nothing, though there are SHEETS", x.taken(shelf, 12), -11);
+            Due.is("nothing acts", x.act(shelf, SAYS, 1), 0);
+            Due.is("no TRACE", x.many(5), 0);
+        }
+        for (int shelf = 0; shelf < 4; shelf++) {
+            x.shelf(shelf, 0, 4 - shelf);
+        }
+        x.shelf(1, 2, 0);
+        x.shelf(2, 1, 3);
+        int[] want = {4, -11, -13, 1};
+        for (int shelf = 0; shelf < 4; shelf++) {
+            Due.is("each by itself", x.taken(shelf, 0), want[shelf]);
         }
     }
 
